@@ -434,6 +434,14 @@ public final class Promises {
         faulty("Bars", 0);
         faulty("barsif 1=1", 0);
         faulty("bars\tif 1=1", 4);
+        faulty("tiresz 1", 0);
+        faulty("tiresa 1", 0);
+        faulty("tires weightz", 6);
+        faulty("tires 1`", 7);
+        faulty("tires 1{", 7);
+        faulty("tires 0:", 7);
+        faulty(times(";", 400), 0);
+        faulty("bars if " + times("not ", 98), 400);
         faulty("tires1 if 1=1 tires", 14);
         faulty("tires 1001", 6);
         faulty("tires 99999999999999999999", 6);
@@ -543,6 +551,12 @@ public final class Promises {
         so("2=3", false);
         so("not 2=3", true);
         so("not not 2=3", false);
+        so("not (not 2=3)", false);
+        so("not (not 2=2)", true);
+        so("not 1=1 and 1=1", false);
+        so("not 1=2 and 1=1", true);
+        so("not (not (not (2=3 and 1=1)))", true);
+        so("(not 1=1) and 1=1", false);
         so("not 1=1 or 1=1", true);
         so("not (1=1 or 1=1)", false);
         so("not 1=2 and 1=2", false);
@@ -888,6 +902,12 @@ public final class Promises {
         safe.terms(2, 2);
         row(safe, 1, NONE);
         row(safe, 0, 2, 0, 1, 0, 0, 1, 0);
+        HillSchool slid = high(4, 0);
+        slid.child(1);
+        slid.goal(0, 2);
+        row(slid, 0, 2, 0, 1, 0, 0, 1, 0);
+        slid.slide();
+        row(slid, 0, 1, 0, 1, 0);
         HillSchool order = high(1, 3, 0);
         order.child(1);
         order.terms(2, 2);
@@ -1214,6 +1234,52 @@ public final class Promises {
         x.back(1);
         due("images stay", x.tires(0, 0, 1), 8);
         due("images stay", x.goal(1, NONE), 2);
+        promise37Replaced();
+    }
+
+    /** What was made anew behind an image is as it was behind the other. */
+    private static void promise37Replaced() {
+        HillSchool x = new HillSchool();
+        x.image(0);
+        x.column();
+        x.column();
+        x.column();
+        x.stone(0, 4);
+        x.child(20);
+        x.expel(0, 1);
+        x.trips(0, 9);
+        x.parish(0);
+        inForce(x, "tires 8");
+        x.goal(0, 6);
+        x.terms(3, 7);
+        x.image(1);
+        x.back(0);
+        heights(x);
+        due("count(11)", x.count(11), NONE);
+        due("count(15)", x.count(15), 1);
+        due("column", x.column(), 0);
+        due("no stones", x.of(0, NONE), 0);
+        due("no goal", x.goal(0, 2), NONE);
+        x.column();
+        x.stone(0, 5);
+        x.stone(0, 6);
+        due("child", x.child(30), 0);
+        due("not expelled", x.fact(0, 1), 0);
+        due("no trips", x.fact(0, 2), 0);
+        x.parish(1);
+        inForce(x, "tires 9 if high>0; bars if high=0");
+        due("tires", x.tires(0, 0, 1), 9);
+        x.back(1);
+        heights(x, 1, 0, 0);
+        due("of(0, 0)", x.of(0, 0), 4);
+        due("fact(0, 0)", x.fact(0, 0), 20);
+        due("fact(0, 1)", x.fact(0, 1), 1);
+        due("fact(0, 2)", x.fact(0, 2), 9);
+        due("shade(0)", x.shade(0), 1);
+        due("goal(0, NONE)", x.goal(0, NONE), 6);
+        x.expel(0, 0);
+        due("tires", x.tires(0, 0, 1), 8);
+        due("count(15)", x.count(15), 7);
     }
 
     private static void promise38() {

@@ -72,10 +72,70 @@ public final class RandomRuns {
         }
 
         boolean agrees() {
+            if (number % 4 == 3) {
+                searches();
+                return wrong == 0;
+            }
             for (int n = 0; calls.size() < CALLS - MOST_AT_ONCE && wrong == 0; n++) {
                 call(n);
             }
             return wrong == 0;
+        }
+
+        /** Small hills with laws by which each carrying tires otherwise; then all that is searched. */
+        private void searches() {
+            int many = draws.of(2, 3, 3, 3, 4);
+            for (int column = 0; column < many; column++) {
+                due("column()", x.column(), model.column());
+                due("parish(" + column + ")", x.parish(column), model.parish(column));
+            }
+            for (int stone = many == 4 ? 1 : 0; stone < draws.of(3, 4, 4, 5); stone++) {
+                int column = draws.below(many);
+                int weight = 1 + draws.below(9);
+                due("stone(" + column + ", " + weight + ")", x.stone(column, weight), model.stone(column, weight));
+            }
+            for (int child = draws.below(3); child >= 0; child--) {
+                int strength = 5 + draws.below(9);
+                due("child(" + strength + ")", x.child(strength), model.child(strength));
+            }
+            while (calls.size() < CALLS - 4 * MOST_AT_ONCE && wrong == 0) {
+                if (!draws.once(4)) {
+                    text(lawOfMany());
+                    int law = draws.below(Math.max(1, model.now.laws.size()));
+                    due("force(" + law + ")", x.force(law), model.force(law));
+                }
+                due("terms(2, 2)", x.terms(2, 2), model.terms(2, 2));
+                goals();
+                for (int sort = 0; sort < 3; sort++) {
+                    int length = model.plan(sort, NONE, 0);
+                    for (int i = NONE; i <= Math.min(length, 7); i++) {
+                        for (int what = 0; what < (i == NONE ? 1 : 3); what++) {
+                            due("plan(" + sort + ", " + i + ", " + what + ")",
+                                    x.plan(sort, i, what), model.plan(sort, i, what));
+                        }
+                    }
+                }
+                duels(1 + draws.below(3), draws.below(2));
+                move(draws.of(3, 5, 7));
+            }
+        }
+
+        /** What it tells is as by draws, of all that it can ask. */
+        private String lawOfMany() {
+            StringBuilder sum = new StringBuilder("term");
+            for (String word : Model.WORDS) {
+                sum.append("+").append(word).append("*").append(draws.of(0, 1, 5, 17, 31, 43, 77));
+            }
+            int modulus = draws.of(3, 5, 9, 20, 60, 100);
+            String least = draws.of(0, 1) == 0 ? "" : "; bars if weight*3+from*5+to=[weight*3+from*5+to]/7*7";
+            return "tires " + sum + "-[" + sum + "]/" + modulus + "*" + modulus + least;
+        }
+
+        private void duels(int turns, int first) {
+            for (int what = -1; what < 4; what++) {
+                due("duel(" + turns + ", " + first + ", " + what + ")",
+                        x.duel(turns, first, what), model.duel(turns, first, what));
+            }
         }
 
         private void due(String call, int got, int want) {
@@ -237,6 +297,10 @@ public final class RandomRuns {
                     spoil(text);
                 }
             }
+            text(text.toString());
+        }
+
+        private void text(String text) {
             int[] bytes = new int[text.length()];
             for (int i = 0; i < bytes.length; i++) {
                 bytes[i] = text.charAt(i);
@@ -475,10 +539,7 @@ public final class RandomRuns {
                 case 6:
                     int turns = draws.once(9) ? draws.of(0, 5, -1) : 1 + draws.below(draws.once(3) ? 4 : 2);
                     int first = draws.once(20) ? draws.of(-1, 2) : draws.below(2);
-                    for (int piece = -1; piece < 4; piece++) {
-                        due("duel(" + turns + ", " + first + ", " + piece + ")",
-                                x.duel(turns, first, piece), model.duel(turns, first, piece));
-                    }
+                    duels(turns, first);
                     break;
                 case 7:
                     due("layers(" + column + ")", x.layers(column), model.layers(column));
