@@ -1,12 +1,19 @@
+import com.sun.management.ThreadMXBean;
+import java.lang.management.ManagementFactory;
+
 /**
- * Every call with any numbers, in any state: none may throw, none may fail to end, and none but the
- * first may ask for room.
+ * Every call with any numbers, in any state: none may throw, none may fail to end; an object takes
+ * little room, and its calls take none.
  */
 public final class Extremes {
     private static final int[] NUMBERS = {
         Integer.MIN_VALUE, Integer.MIN_VALUE + 1, -1_000_000_001, -1000, -7, -2, -1, 0, 0, 1, 1, 2, 2, 3, 3, 4, 5, 6, 7,
         9, 10, 11, 12, 13, 20, 21, 30, 31, 60, 61, 99, 100, 380, 400, 401, 999, 1000, 3600, 3601, 1_000_000, 1_000_001,
         0x62617273, 0x74697265, 0x73202020, Integer.MAX_VALUE - 1, Integer.MAX_VALUE};
+    private static final long MOST_FOR_AN_OBJECT = 1_000_000;
+    /** What the measuring itself may take. */
+    private static final long MOST_FOR_ITS_CALLS = 10_000;
+    private static final ThreadMXBean THREADS = (ThreadMXBean) ManagementFactory.getThreadMXBean();
     private static long state = 1;
 
     private static int draw() {
@@ -62,13 +69,26 @@ public final class Extremes {
     }
 
     public static void main(String[] args) {
+        long thread = Thread.currentThread().getId();
+        boolean good = true;
         long sum = 0;
         for (int run = 0; run < 300; run++) {
+            long first = THREADS.getThreadAllocatedBytes(thread);
             HillSchool x = new HillSchool();
+            long made = THREADS.getThreadAllocatedBytes(thread);
             for (int n = 0; n < 512; n++) {
                 sum += call(x, draw() % 4 == 0 ? draw() % 8 : draw() % 38);
             }
+            long used = THREADS.getThreadAllocatedBytes(thread);
+            // The first run has the machine's own making of classes in it.
+            if (run > 0 && (made - first > MOST_FOR_AN_OBJECT || used - made > MOST_FOR_ITS_CALLS)) {
+                good = false;
+                System.out.println("run " + run + ": bytes " + (made - first) + ", then " + (used - made));
+            }
         }
         System.out.println("no call threw; their answers together: " + sum);
+        if (!good) {
+            System.exit(1);
+        }
     }
 }

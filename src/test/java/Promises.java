@@ -1249,7 +1249,9 @@ public final class Promises {
         x.expel(0, 1);
         x.trips(0, 9);
         x.parish(0);
-        inForce(x, "tires 8");
+        law(x, "tires 3; tires 8 if high>0");
+        law(x, "tires 7");
+        x.force(0);
         x.goal(0, 6);
         x.terms(3, 7);
         x.image(1);
@@ -1267,8 +1269,10 @@ public final class Promises {
         due("not expelled", x.fact(0, 1), 0);
         due("no trips", x.fact(0, 2), 0);
         x.parish(1);
-        inForce(x, "tires 9 if high>0; bars if high=0");
+        inForce(x, "tires 9");
         due("tires", x.tires(0, 0, 1), 9);
+        inForce(x, "tires 6; tires 5 if high>0");
+        due("tires", x.tires(0, 0, 1), 5);
         x.back(1);
         heights(x, 1, 0, 0);
         due("of(0, 0)", x.of(0, 0), 4);
@@ -1279,6 +1283,8 @@ public final class Promises {
         due("goal(0, NONE)", x.goal(0, NONE), 6);
         x.expel(0, 0);
         due("tires", x.tires(0, 0, 1), 8);
+        x.force(1);
+        due("tires", x.tires(0, 0, 1), 7);
         due("count(15)", x.count(15), 7);
     }
 

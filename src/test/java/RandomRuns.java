@@ -89,7 +89,8 @@ public final class RandomRuns {
                 due("column()", x.column(), model.column());
                 due("parish(" + column + ")", x.parish(column), model.parish(column));
             }
-            for (int stone = many == 4 ? 1 : 0; stone < draws.of(3, 4, 4, 5); stone++) {
+            int stones = many == 4 ? draws.of(3, 4) : draws.of(3, 4, 5);
+            for (int stone = 0; stone < stones; stone++) {
                 int column = draws.below(many);
                 int weight = 1 + draws.below(9);
                 due("stone(" + column + ", " + weight + ")", x.stone(column, weight), model.stone(column, weight));
