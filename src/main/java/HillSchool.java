@@ -1628,7 +1628,6 @@ public final class HillSchool {
         private int inAll = 0;
         private int inAny = 0;
         private final int[] setsWith = new int[MOST_CHILDREN];
-        private final int[] longest = new int[MOST_STONES];
 
         Scales(Hill hill) {
             this.hill = hill;
@@ -1729,22 +1728,13 @@ public final class HillSchool {
             return best;
         }
 
-        /**
-         * Stones that get heavier each going up must be in as many parts; as many parts as the most
-         * of such stones are enough.
-         */
+        /** A part is of stones one upon another, so every heavier stone upon a lighter one begins one. */
         int layersOf(int column) {
-            int most = 0;
-            for (int i = 0; i < hill.columns.high(column) && i < MOST_STONES; i++) {
-                longest[i] = 1;
-                for (int under = 0; under < i; under++) {
-                    if (hill.columns.heft(column, under) < hill.columns.heft(column, i)) {
-                        longest[i] = Math.max(longest[i], longest[under] + 1);
-                    }
-                }
-                most = Math.max(most, longest[i]);
+            int parts = Math.min(1, hill.columns.high(column));
+            for (int i = 1; i < hill.columns.high(column); i++) {
+                parts += hill.columns.heft(column, i) > hill.columns.heft(column, i - 1) ? 1 : 0;
             }
-            return most;
+            return parts;
         }
     }
 

@@ -1083,12 +1083,15 @@ public final class Promises {
 
     private static void promise33() {
         promise = 33;
-        HillSchool x = hill(w(), w(5), w(5, 5, 5), w(9, 7, 7, 1), w(1, 2, 3, 4), w(3, 5, 3, 5), w(5, 1, 4, 2, 3));
-        int[] want = {0, 1, 1, 1, 4, 2, 3};
+        HillSchool x = hill(w(), w(5), w(5, 5, 5), w(9, 7, 7, 1), w(1, 2, 3, 4), w(3, 5, 3, 5), w(5, 1, 4, 2, 3),
+                w(1, 2, 1, 2, 1, 2, 1, 2, 1, 2), w(1, 30, 29, 28, 27, 26, 25, 24, 23, 22), w(2, 1, 3, 3, 2, 4, 1, 1));
+        int[] want = {0, 1, 1, 1, 4, 3, 3, 6, 2, 3};
         for (int column = 0; column < want.length; column++) {
             due("layers(" + column + ")", x.layers(column), want[column]);
         }
-        due("layers(7)", x.layers(7), NONE);
+        due("lift", x.lift(5), 5);
+        due("layers without the top one", x.layers(5), 2);
+        due("layers(10)", x.layers(10), NONE);
         due("layers(-1)", x.layers(-1), NONE);
     }
 

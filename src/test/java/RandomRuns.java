@@ -1441,32 +1441,19 @@ public final class RandomRuns {
         }
 
         int layers(int column) {
-            if (!isColumn(column)) {
-                return NONE;
-            }
-            for (int parts = 0; true; parts++) {
-                if (fit(now.columns.get(column), 0, new int[parts])) {
-                    return parts;
-                }
-            }
+            return isColumn(column) ? fewestParts(now.columns.get(column)) : NONE;
         }
 
-        /** Every stone is tried in every part. */
-        private static boolean fit(List<Integer> stones, int i, int[] tops) {
-            if (i == stones.size()) {
-                return true;
-            }
-            for (int part = 0; part < tops.length; part++) {
-                int top = tops[part];
-                if (top == 0 || stones.get(i) <= top) {
-                    tops[part] = stones.get(i);
-                    if (fit(stones, i + 1, tops)) {
-                        return true;
-                    }
-                    tops[part] = top;
+        /** Every lowest part that can be is tried. */
+        private static int fewestParts(List<Integer> stones) {
+            int fewest = stones.size();
+            for (int end = 1; end <= stones.size(); end++) {
+                if (end > 1 && stones.get(end - 1) > stones.get(end - 2)) {
+                    break;
                 }
+                fewest = Math.min(fewest, 1 + fewestParts(stones.subList(end, stones.size())));
             }
-            return false;
+            return fewest;
         }
 
         int rain(int seed, int n) {
