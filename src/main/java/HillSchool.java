@@ -1026,7 +1026,8 @@ public final class HillSchool {
         private static final int WORDS = 8;
         private static final int MOST_TIRING = 99;
         private static final long FARTHEST = 1_000_000_000L;
-        private static final int BROKEN = Integer.MIN_VALUE;
+        /** Farther than any number that is not broken. */
+        private static final int BROKEN = -2_000_000_000;
         /** Each of 8 brackets leaves two numbers waiting at most, and a few more stand ahead of all. */
         private static final int MOST_PILED = 32;
 

@@ -54,6 +54,7 @@ public final class LanguageRules {
         never(code, "->|::", "rule 2: a lambda, a method reference");
         never(code, "\\b(equals|hashCode|toString)\\b", "rule 6: of own objects");
         never(code, "\\w+Exact\\b", "rule 4");
+        never(code, "\\b(Integer|Long|Math)\\.[A-Z]", "rule 4: a constant that is not listed");
         never(code, "\\bSystem\\.(?!arraycopy\\b)", "rule 4");
         never(code, "\\bArrays\\.(?!copyOf\\b|copyOfRange\\b|fill\\b)", "rule 4");
         never(code, "\\bimport (?!java\\.util\\.(Arrays|ArrayList|List|Iterator);)", "rule 4");

@@ -1,144 +1,7 @@
 /** For each promise of the document: ordinary calls, the edges that it names, wrong calls. */
-public final class Promises {
-    private static final int NONE = HillSchool.NONE;
-    private static final int NOTHING = HillSchool.NOTHING;
-    private static int wrong = 0;
-    private static int promise = 0;
-
-    private static void due(String call, int got, int want) {
-        if (got != want) {
-            wrong++;
-            System.out.println("promise " + promise + ": " + call + " answered " + got + ", due is " + want);
-        }
-    }
-
-    /** A call that is refused: what it answers, its status, and that it was counted. */
-    private static void refused(HillSchool x, String call, int before, int got, int by) {
-        due(call, got, by);
-        due(call + ": status", x.status(), by);
-        due(call + ": count", refusals(x), before + 1);
-    }
-
-    private static int refusals(HillSchool x) {
-        return x.count(6) + x.count(7) + x.count(8) + x.count(9) + x.count(10);
-    }
-
-    /** Columns, a row of weights from the ground for each. */
-    private static HillSchool hill(int[]... columns) {
-        HillSchool x = new HillSchool();
-        for (int[] weights : columns) {
-            int column = x.column();
-            for (int weight : weights) {
-                x.stone(column, weight);
-            }
-        }
-        return x;
-    }
-
-    private static int[] w(int... weights) {
-        return weights;
-    }
-
-    /** Columns with so many stones of weight 1. */
-    private static HillSchool high(int... heights) {
-        HillSchool x = new HillSchool();
-        for (int height : heights) {
-            int column = x.column();
-            for (int i = 0; i < height; i++) {
-                x.stone(column, 1);
-            }
-        }
-        return x;
-    }
-
-    private static void heights(HillSchool x, int... heights) {
-        due("count(0)", x.count(0), heights.length);
-        for (int column = 0; column < heights.length; column++) {
-            due("of(" + column + ", NONE)", x.of(column, NONE), heights[column]);
-        }
-    }
-
-    private static void write(HillSchool x, int... bytes) {
-        int had = x.count(5);
-        for (int i = 0; i < bytes.length; i += 20) {
-            x.feed(four(bytes, i), four(bytes, i + 4), four(bytes, i + 8), four(bytes, i + 12), four(bytes, i + 16));
-        }
-        x.end(had + bytes.length);
-    }
-
-    private static int four(int[] bytes, int at) {
-        int value = 0;
-        for (int i = at; i < at + 4; i++) {
-            value = value << 8 | (i < bytes.length ? bytes[i] & 255 : 0);
-        }
-        return value;
-    }
-
-    private static int law(HillSchool x, String text) {
-        int[] bytes = new int[text.length()];
-        for (int i = 0; i < bytes.length; i++) {
-            bytes[i] = text.charAt(i);
-        }
-        write(x, bytes);
-        return x.law();
-    }
-
-    private static void inForce(HillSchool x, String text) {
-        int number = law(x, text);
-        if (number < 0) {
-            due("law of " + text, number, 0);
-        }
-        x.force(number);
-    }
-
-    private static void faulty(String text, int place) {
-        HillSchool x = new HillSchool();
-        due("law of '" + text + "'", law(x, text), -6);
-        due("fault of '" + text + "'", x.fault(), place);
-        due("status of '" + text + "'", x.status(), -6);
-        due("laws of '" + text + "'", x.count(4), 0);
-        due("tape of '" + text + "'", x.count(5), 0);
-    }
-
-    private static void sound(String text) {
-        HillSchool x = new HillSchool();
-        due("law of '" + text + "'", law(x, text), 0);
-        due("fault of '" + text + "'", x.fault(), NONE);
-        due("status of '" + text + "'", x.status(), 0);
-        due("laws of '" + text + "'", x.count(4), 1);
-        due("tape of '" + text + "'", x.count(5), 0);
-    }
-
-    private static String times(String text, int n) {
-        StringBuilder all = new StringBuilder();
-        for (int i = 0; i < n; i++) {
-            all.append(text);
-        }
-        return all.toString();
-    }
-
-    /** Child 2, strength 20, carries a weight of 7 from column 1 (3 stones) to column 3 (2); term 6. */
-    private static int tiresBy(String text) {
-        HillSchool x = hill(w(), w(1, 2, 7), w(), w(4, 4));
-        x.child(30);
-        x.child(30);
-        x.child(20);
-        x.terms(0, 6);
-        inForce(x, text);
-        return x.tires(2, 1, 3);
-    }
-
-    private static boolean isSo(String test) {
-        return tiresBy("tires 50; tires 77 if " + test) == 77;
-    }
-
-    private static void so(String test, boolean want) {
-        due(test, isSo(test) ? 1 : 0, want ? 1 : 0);
-        due("barred if " + test, tiresBy("bars if " + test), want ? NONE : 2);
-    }
-
+public final class Promises extends Bench {
     private static void promise1() {
-        promise = 1;
+        at("promise 1");
         HillSchool x = new HillSchool();
         int[] first = {0, 0, 0, 0, 0, 0, 0, 0, 0, 0, 0, NONE, 0, 1, 3, 1};
         for (int what = 0; what < first.length; what++) {
@@ -160,7 +23,7 @@ public final class Promises {
     }
 
     private static void promise2() {
-        promise = 2;
+        at("promise 2");
         HillSchool x = new HillSchool();
         for (int column = 0; column < 12; column++) {
             due("column()", x.column(), column);
@@ -173,7 +36,7 @@ public final class Promises {
     }
 
     private static void promise3() {
-        promise = 3;
+        at("promise 3");
         HillSchool x = hill(w(), w());
         due("stone(1, 1)", x.stone(1, 1), 1);
         due("stone(1, 30)", x.stone(1, 30), 2);
@@ -196,7 +59,7 @@ public final class Promises {
     }
 
     private static void promise4() {
-        promise = 4;
+        at("promise 4");
         HillSchool x = hill(w(4, 9), w());
         due("lift(0)", x.lift(0), 9);
         heights(x, 1, 0);
@@ -211,7 +74,7 @@ public final class Promises {
     }
 
     private static void promise5() {
-        promise = 5;
+        at("promise 5");
         HillSchool x = hill(w(4, 9, 2), w());
         due("of(0, NONE)", x.of(0, NONE), 3);
         due("of(0, 0)", x.of(0, 0), 4);
@@ -228,7 +91,7 @@ public final class Promises {
     }
 
     private static void promise6() {
-        promise = 6;
+        at("promise 6");
         HillSchool x = hill(w(4, 9, 2), w());
         due("weight(0)", x.weight(0), 15);
         due("weight(1)", x.weight(1), 0);
@@ -239,7 +102,7 @@ public final class Promises {
     }
 
     private static void promise7() {
-        promise = 7;
+        at("promise 7");
         HillSchool x = new HillSchool();
         due("child(1)", x.child(1), 0);
         due("child(60)", x.child(60), 1);
@@ -256,7 +119,7 @@ public final class Promises {
     }
 
     private static void promise8() {
-        promise = 8;
+        at("promise 8");
         HillSchool x = hill(w(2), w());
         x.child(5);
         x.child(5);
@@ -275,7 +138,7 @@ public final class Promises {
     }
 
     private static void promise9() {
-        promise = 9;
+        at("promise 9");
         HillSchool x = new HillSchool();
         x.child(5);
         x.child(44);
@@ -292,7 +155,7 @@ public final class Promises {
     }
 
     private static void promise10() {
-        promise = 10;
+        at("promise 10");
         HillSchool x = hill(w(), w());
         for (int parish = 0; parish < 6; parish++) {
             due("parish", x.parish(parish % 2), parish);
@@ -305,7 +168,7 @@ public final class Promises {
     }
 
     private static void promise11() {
-        promise = 11;
+        at("promise 11");
         HillSchool x = new HillSchool();
         int[] first = {0, 1, 3, 1};
         int[] least = {0, 1, 1, 0};
@@ -323,7 +186,7 @@ public final class Promises {
     }
 
     private static void promise12() {
-        promise = 12;
+        at("promise 12");
         HillSchool x = hill(w());
         due("feed", x.feed(0x00010203, 0x04050607, 0x08090a0b, 0x0c0d0e0f, 0x10111213), 20);
         due("row", x.row(), 10);
@@ -345,7 +208,7 @@ public final class Promises {
     }
 
     private static void promise13() {
-        promise = 13;
+        at("promise 13");
         HillSchool x = hill(w());
         due("end(0)", x.end(0), 0);
         due("end(1)", x.end(1), NONE);
@@ -363,7 +226,7 @@ public final class Promises {
     }
 
     private static void promise14() {
-        promise = 14;
+        at("promise 14");
         HillSchool x = hill(w(), w(8));
         refused(x, "row()", 0, x.row(), -6);
         write(x, 1, 5, 0, 30, 31, 255);
@@ -388,7 +251,7 @@ public final class Promises {
     }
 
     private static void promise15() {
-        promise = 15;
+        at("promise 15");
         HillSchool x = hill(w(), w(8));
         x.row();
         due("gravel", x.gravel(), 0);
@@ -408,7 +271,7 @@ public final class Promises {
     }
 
     private static void promise16() {
-        promise = 16;
+        at("promise 16");
         sound("tires 1");
         sound("bars");
         sound("  bars  ");
@@ -489,7 +352,7 @@ public final class Promises {
     }
 
     private static void promise17() {
-        promise = 17;
+        at("promise 17");
         HillSchool x = new HillSchool();
         due("fault", x.fault(), NONE);
         law(x, "tires x");
@@ -581,7 +444,7 @@ public final class Promises {
     }
 
     private static void promise18() {
-        promise = 18;
+        at("promise 18");
         HillSchool x = hill(w(2), w());
         x.child(5);
         refused(x, "force(0)", 0, x.force(0), -2);
@@ -604,7 +467,7 @@ public final class Promises {
     }
 
     private static void promise19() {
-        promise = 19;
+        at("promise 19");
         HillSchool x = hill(w(3, 8), w(), w(1, 1, 1, 1, 1, 1, 1, 1, 1, 1));
         x.child(8);
         x.child(7);
@@ -631,7 +494,7 @@ public final class Promises {
     }
 
     private static void promise20() {
-        promise = 20;
+        at("promise 20");
         HillSchool x = hill(w(3), w(), w(), w(5));
         x.child(4);
         due("tires(0, 0, 1)", x.tires(0, 0, 1), 1);
@@ -648,7 +511,7 @@ public final class Promises {
     }
 
     private static void promise21() {
-        promise = 21;
+        at("promise 21");
         HillSchool x = hill(w(3, 6), w(9));
         x.child(6);
         due("carry", x.carry(0, 0, 1), 6);
@@ -673,7 +536,7 @@ public final class Promises {
     }
 
     private static void promise22() {
-        promise = 22;
+        at("promise 22");
         HillSchool x = hill(w(1, 4), w(2), w(9), w());
         x.child(9);
         due("exchange", x.exchange(0, 0, 1, 2), 5);
@@ -717,7 +580,7 @@ public final class Promises {
     }
 
     private static void promise23() {
-        promise = 23;
+        at("promise 23");
         due("as many more", high(3, 0).steep(), NONE);
         due("one more than that", high(4, 0).steep(), 0);
         due("to the left", high(0, 4).steep(), 1);
@@ -739,7 +602,7 @@ public final class Promises {
     }
 
     private static void promise24() {
-        promise = 24;
+        at("promise 24");
         HillSchool x = high(0, 5, 0);
         due("slide", x.slide(), 2);
         heights(x, 1, 3, 1);
@@ -762,7 +625,7 @@ public final class Promises {
     }
 
     private static void promise25() {
-        promise = 25;
+        at("promise 25");
         HillSchool x = high(0, 5, 0, 0, 9, 0);
         for (int column = 0; column < 6; column++) {
             x.parish(column);
@@ -791,7 +654,7 @@ public final class Promises {
     }
 
     private static void promise26() {
-        promise = 26;
+        at("promise 26");
         HillSchool x = hill(w(1, 1, 1), w(), w(), w(2));
         x.child(1);
         x.parish(0);
@@ -817,7 +680,7 @@ public final class Promises {
     }
 
     private static void promise27() {
-        promise = 27;
+        at("promise 27");
         HillSchool x = high(1, 0);
         due("goal(0, 0)", x.goal(0, 0), NONE);
         due("goal(0, 10)", x.goal(0, 10), 0);
@@ -839,16 +702,8 @@ public final class Promises {
         due("goal(0, 5)", x.goal(0, 5), 3);
     }
 
-    private static void row(HillSchool x, int sort, int sum, int... carryings) {
-        due("plan(" + sort + ", NONE, 0)", x.plan(sort, NONE, 0), sum);
-        for (int k = 0; k < carryings.length; k++) {
-            due("plan(" + sort + ", " + k / 3 + ", " + k % 3 + ")", x.plan(sort, k / 3, k % 3), carryings[k]);
-        }
-        due("behind the row", x.plan(sort, carryings.length / 3, 0), NONE);
-    }
-
     private static void promise28() {
-        promise = 28;
+        at("promise 28");
         HillSchool x = hill(w(1, 2), w(), w());
         x.child(2);
         x.goal(2, 2);
@@ -944,7 +799,7 @@ public final class Promises {
     }
 
     private static void promise29() {
-        promise = 29;
+        at("promise 29");
         HillSchool x = hill(w(1, 2), w(3), w(3));
         int[] want = {1, 1, 1, 3, 2, 2, 3, 1, 1, 1, 0};
         for (int weight = 0; weight < want.length; weight++) {
@@ -972,7 +827,7 @@ public final class Promises {
     }
 
     private static void promise30() {
-        promise = 30;
+        at("promise 30");
         HillSchool x = new HillSchool();
         x.child(3);
         due("trips(0, 20)", x.trips(0, 20), 0);
@@ -986,14 +841,8 @@ public final class Promises {
         due("fact(0, 2)", x.fact(0, 2), 5);
     }
 
-    private static void found(HillSchool x, int ounces, int more, int... want) {
-        for (int what = 0; what < want.length; what++) {
-            due("culprits(" + ounces + ", " + more + ", " + what + ")", x.culprits(ounces, more, what), want[what]);
-        }
-    }
-
     private static void promise31() {
-        promise = 31;
+        at("promise 31");
         HillSchool x = new HillSchool();
         found(x, 1, 0, 1, 0, 0, 0, NONE);
         found(x, 1, 1, 0, NONE, NONE, NONE, NONE);
@@ -1029,16 +878,8 @@ public final class Promises {
         found(y, 1, 8, 1, 15, 15, 0, 0);
     }
 
-    private static void outcome(HillSchool x, int turns, int first, int... want) {
-        for (int what = 0; what < 3; what++) {
-            due("duel(" + turns + ", " + first + ", " + what + ")", x.duel(turns, first, what), want[what]);
-        }
-        due("what 3", x.duel(turns, first, 3), NONE);
-        due("what -1", x.duel(turns, first, -1), NONE);
-    }
-
     private static void promise32() {
-        promise = 32;
+        at("promise 32");
         HillSchool x = hill(w(1, 1, 1), w(), w());
         outcome(x, 1, 0, 0, NONE, NONE);
         x.child(1);
@@ -1082,7 +923,7 @@ public final class Promises {
     }
 
     private static void promise33() {
-        promise = 33;
+        at("promise 33");
         HillSchool x = hill(w(), w(5), w(5, 5, 5), w(9, 7, 7, 1), w(1, 2, 3, 4), w(3, 5, 3, 5), w(5, 1, 4, 2, 3),
                 w(1, 2, 1, 2, 1, 2, 1, 2, 1, 2), w(1, 30, 29, 28, 27, 26, 25, 24, 23, 22), w(2, 1, 3, 3, 2, 4, 1, 1));
         int[] want = {0, 1, 1, 1, 4, 3, 3, 6, 2, 3};
@@ -1096,7 +937,7 @@ public final class Promises {
     }
 
     private static void promise34() {
-        promise = 34;
+        at("promise 34");
         HillSchool none = new HillSchool();
         due("without columns", none.rain(7, 3), 0);
         due("rained", none.rained(0, 0), NONE);
@@ -1126,14 +967,8 @@ public final class Promises {
         drops(slides, 2, 7, 4, 8, 1, 2);
     }
 
-    private static void drops(HillSchool x, int... want) {
-        for (int k = 0; k < want.length; k++) {
-            due("rained(" + k / 2 + ", " + k % 2 + ")", x.rained(k / 2, k % 2), want[k]);
-        }
-    }
-
     private static void promise35() {
-        promise = 35;
+        at("promise 35");
         HillSchool x = hill(w(4, 2), w(6));
         due("ahead of any", x.rained(0, 0), NONE);
         x.rain(-1, 1);
@@ -1151,7 +986,7 @@ public final class Promises {
     }
 
     private static void promise36() {
-        promise = 36;
+        at("promise 36");
         HillSchool x = hill(w(4));
         due("image(0)", x.image(0), 0);
         x.stone(0, 5);
@@ -1174,7 +1009,7 @@ public final class Promises {
     }
 
     private static void promise37() {
-        promise = 37;
+        at("promise 37");
         HillSchool x = hill(w(4, 7), w(1));
         refused(x, "back(0)", 0, x.back(0), -2);
         refused(x, "back(2)", 1, x.back(2), -1);
@@ -1292,7 +1127,7 @@ public final class Promises {
     }
 
     private static void promise38() {
-        promise = 38;
+        at("promise 38");
         HillSchool x = hill(w(4, 7), w(1), w());
         x.child(3);
         x.child(3);
@@ -1332,7 +1167,7 @@ public final class Promises {
     }
 
     private static void promise39() {
-        promise = 39;
+        at("promise 39");
         HillSchool x = hill(w(4, 7), w(1));
         due("status", x.status(), 0);
         x.stone(0, 0);
@@ -1431,9 +1266,6 @@ public final class Promises {
         promise37();
         promise38();
         promise39();
-        System.out.println(wrong == 0 ? "all promises are kept" : wrong + " answers are not as due");
-        if (wrong != 0) {
-            System.exit(1);
-        }
+        close("all promises are kept");
     }
 }
