@@ -20,6 +20,10 @@ abstract class Sentences extends Bench {
 
     /** Parts are I to IV and the constants of the Terms, and 1 to 39 by the promises' numbers. */
     static void open() throws IOException {
+        if (Files.notExists(DOC)) {
+            System.out.println("no document at " + DOC + ": the tests run, what they quote is not looked at");
+            return;
+        }
         for (String chapter : Files.readString(DOC).split("(?m)^## ")) {
             Matcher promise = Pattern.compile("^Promise (\\d+): [^\n]*\n\\s*`[^`]*`:(.*)", Pattern.DOTALL).matcher(chapter);
             if (promise.find()) {
@@ -42,6 +46,13 @@ abstract class Sentences extends Bench {
     /** A sentence, or a piece of one, with a test of its own. */
     static void sentence(String part, String words, Runnable test) {
         at(part + ", \"" + words + "\"");
+        if (!PARTS.isEmpty()) {
+            quote(part, words);
+        }
+        test.run();
+    }
+
+    private static void quote(String part, String words) {
         String text = PARTS.getOrDefault(part, "");
         int found = text.indexOf(words);
         due("words that stand in the document", found >= 0 ? 1 : 0, 1);
@@ -49,11 +60,13 @@ abstract class Sentences extends Bench {
             QUOTED.get(part).set(found, found + words.length());
             found = text.indexOf(words, found + 1);
         }
-        test.run();
     }
 
     /** Each word of a part must have been quoted. */
     static void whole(String part) {
+        if (PARTS.isEmpty()) {
+            return;
+        }
         at(part);
         String text = PARTS.getOrDefault(part, "no such part");
         BitSet quoted = QUOTED.getOrDefault(part, new BitSet());
