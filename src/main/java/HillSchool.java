@@ -1600,9 +1600,7 @@ public final class HillSchool {
                     if (carriers.note(a, b, columns.top(a), columns.high(a), columns.high(b)) == NONE) {
                         continue;
                     }
-                    columns.move(a, b);
-                    int sum = shadesBehind(turns - 1, 1 - school);
-                    columns.move(b, a);
+                    int sum = shadesCarried(turns, school, a, b);
                     if (best == NONE || (school == 0 ? sum > best : sum < best)) {
                         best = sum;
                         from[turns] = a;
@@ -1610,7 +1608,15 @@ public final class HillSchool {
                     }
                 }
             }
-            return best == NONE ? shadesBehind(turns - 1, 1 - school) : best;
+            // Who passes leaves all as it is, so none CAN be in the turns that are left either.
+            return best == NONE ? hill.shades(columns) : best;
+        }
+
+        private int shadesCarried(int turns, int school, int a, int b) {
+            columns.move(a, b);
+            int sum = shadesBehind(turns - 1, 1 - school);
+            columns.move(b, a);
+            return sum;
         }
     }
 

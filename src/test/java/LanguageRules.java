@@ -67,6 +67,11 @@ public final class LanguageRules {
         never(code, "\"\" \\+|\\+ \"\"", "rule 10");
     }
 
+    private static boolean callsItself(List<String> body, String name) {
+        Pattern call = Pattern.compile("(?<![.\\w])" + name + "\\(");
+        return body.stream().anyMatch(line -> call.matcher(line).find());
+    }
+
     private static void methods(List<String> code) {
         Pattern head = Pattern.compile("^( {4}| {8})((?:private |public |static |final )*)([\\w\\[\\]]+ )?(\\w+)\\(([^)]*)\\) \\{");
         List<String> face = new ArrayList<>();
@@ -86,6 +91,9 @@ public final class LanguageRules {
             }
             if (end - i + 1 > MOST_LINES) {
                 fault(i + 1, "rule 11: a long method");
+            }
+            if (!found.group(2).contains("static ") && callsItself(code.subList(i + 1, end), found.group(4))) {
+                fault(i + 1, "rule 8: only a static method calls itself");
             }
         }
         for (String name : others) {
