@@ -5,6 +5,7 @@ import java.nio.file.Files;
 import java.nio.file.Path;
 import java.util.regex.Matcher;
 import java.util.regex.Pattern;
+import javax.tools.JavaCompiler;
 import javax.tools.ToolProvider;
 
 /** The examples of README.md, compiled as they stand: each call answers the number behind it. */
@@ -49,10 +50,15 @@ public final class Readme extends Bench {
 
     public static void main(String[] args) throws IOException, ReflectiveOperationException {
         at("README.md");
+        JavaCompiler compiler = ToolProvider.getSystemJavaCompiler();
+        if (compiler == null) {
+            System.out.println("this java has no compiler in it: the examples of README.md are not looked at");
+            return;
+        }
         Path place = Files.createTempDirectory("readme");
         Path program = place.resolve("Examples.java");
         Files.writeString(program, program(Files.readString(Path.of("README.md"))));
-        int failed = ToolProvider.getSystemJavaCompiler().run(null, null, null,
+        int failed = compiler.run(null, null, null,
                 "-encoding", "UTF-8", "-cp", System.getProperty("java.class.path"), "-d", place.toString(), program.toString());
         due("compiling the examples", failed, 0);
         if (failed == 0) {
